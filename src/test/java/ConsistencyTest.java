@@ -1,0 +1,122 @@
+import java.lang.reflect.Array;
+import java.lang.reflect.Field;
+import java.util.List;
+
+/** Promise 42: isConsistent is true of every book, and would tell one that was damaged inside. */
+final class ConsistencyTest {
+    public static void main(String[] args) throws Exception {
+        Check.yes("42: a new book", new SpecBoard().isConsistent());
+        Check.yes("42: a book in use", inUse().isConsistent());
+        Check.yes("42: a full book", full().isConsistent());
+        damaged("wishes", 0, "name", "Capital");
+        damaged("wishes", 0, "name", "b");
+        damaged("wishes", 0, "name", "");
+        damaged("wishes", 0, "name", "abcdefghi");
+        damaged("wishes", 0, "cost", 51);
+        damaged("wishes", 0, "cost", 0);
+        damaged("wishes", 0, "value", -1);
+        damaged("wishes", 0, "value", 100);
+        damaged("wishes", 0, "state", 'x');
+        damaged("wishes", 0, "state", 'p');
+        damaged("wishes", 1, "state", 'p');
+        damaged("wishes", 1, "state", 'a');
+        damaged("wishes", 0, "release", 1);
+        damaged("wishes", 2, "release", 6);
+        damaged("wishes", 2, "release", -2);
+        damaged("wishes", 0, "parent", 0);
+        damaged("wishes", 0, "parent", 9);
+        damaged("wishes", 2, "parent", 3);
+        damaged("wishes", 3, "needs", 1);
+        damaged("wishes", 3, "excludes", 1);
+        damaged("wishes", 3, "excludes", 8);
+        damaged("tests", 0, "covers", 1 << 9);
+        damaged("tests", 0, "covers", 1);
+        damaged("releases", 0, "shipped", false);
+        damaged("releases", 1, "shipped", true);
+        damaged("releases", 1, "capacity", 501);
+        damaged("releases", 1, "capacity", 1);
+        damaged("releases", 1, "capacity", 0);
+        damaged("risks", 0, "firstChance", 1001);
+        damaged("risks", 0, "harm", -1);
+        damagedCount();
+        damagedEffects();
+        Check.end();
+    }
+
+    /** Wish 0 is accepted, 1 is shipped with 0, 2 is planned for 1, 3 is new. */
+    private static SpecBoard inUse() {
+        SpecBoard book = new SpecBoard();
+        Books.wish(book, "a", 2, 1);
+        Books.wish(book, "b", 2, 1);
+        Books.wish(book, "c", 2, 1);
+        Books.wish(book, "d", 2, 1);
+        book.addRelease(9);
+        book.addRelease(9);
+        book.accept(0);
+        book.accept(1);
+        book.accept(2);
+        Books.ship(book, 1, 0);
+        book.plan(2, 1);
+        book.refine(3, 2);
+        book.need(0, 3);
+        book.exclude(0, 1);
+        book.addRisk(500, 10);
+        book.lower(0, 1, 10);
+        return book;
+    }
+
+    private static SpecBoard full() {
+        SpecBoard book = Books.withAccepted(16);
+        for (int i = 0; i < 6; i++) {
+            book.addRelease(500);
+        }
+        for (int i = 0; i < 8; i++) {
+            book.addRisk(1000, 9999);
+        }
+        for (int i = 0; i < 5; i++) {
+            book.makeBaseline();
+        }
+        for (int i = 0; i < 16; i++) {
+            Books.passedTest(book, i, 0);
+            book.plan(i, 0);
+        }
+        Books.type(book, "abcdefgh");
+        book.ship(0);
+        return book;
+    }
+
+    private static void damaged(String list, int index, String field, Object value) throws Exception {
+        SpecBoard book = inUse();
+        Object part = listOf(book, list).get(index);
+        fieldOf(part, field).set(part, value);
+        Check.no("42: " + field + " " + index + " is " + value, book.isConsistent());
+    }
+
+    private static void damagedCount() throws Exception {
+        SpecBoard book = inUse();
+        Object release = listOf(book, "releases").get(0);
+        Array.setInt(fieldOf(release, "passedCounts").get(release), 1, 2);
+        Check.no("42: a passed count of 2", book.isConsistent());
+    }
+
+    private static void damagedEffects() throws Exception {
+        SpecBoard book = inUse();
+        Object risk = listOf(book, "risks").get(0);
+        @SuppressWarnings("unchecked")
+        List<Object> effects = (List<Object>) fieldOf(risk, "effects").get(risk);
+        for (int i = 0; i < 6; i++) {
+            effects.add(effects.get(0));
+        }
+        Check.no("42: seven effects", book.isConsistent());
+    }
+
+    private static List<?> listOf(SpecBoard book, String list) throws Exception {
+        return (List<?>) fieldOf(book, list).get(book);
+    }
+
+    private static Field fieldOf(Object part, String name) throws Exception {
+        Field field = part.getClass().getDeclaredField(name);
+        field.setAccessible(true);
+        return field;
+    }
+}
