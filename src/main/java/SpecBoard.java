@@ -144,7 +144,8 @@ public final class SpecBoard {
         return Integer.bitCount(needing.needs);
     }
 
-    public boolean exclude(int wish, int other) throws IndexOutOfBoundsException, IllegalArgumentException {
+    public boolean exclude(int wish, int other)
+            throws IndexOutOfBoundsException, IllegalArgumentException {
         Wish one = wishAt(wish);
         Wish two = wishAt(other);
         if (wish == other) {
@@ -249,7 +250,7 @@ public final class SpecBoard {
         Wish planned = wishAt(wish);
         Release taking = releaseAt(release);
         if (planned.state != ACCEPTED || taking.shipped) {
-            throw new IllegalStateException("the wish is not open for planning, or the release was shipped");
+            throw new IllegalStateException("the wish is not accepted, or the release was shipped");
         }
         if (planned.cost > roomIn(release)) {
             throw new UnsupportedOperationException("the wish costs more than is left");
@@ -279,12 +280,10 @@ public final class SpecBoard {
     }
 
     public int left(int release) throws IndexOutOfBoundsException {
-        releaseAt(release);
         return roomIn(release);
     }
 
     public char reasonAgainst(int release) throws IndexOutOfBoundsException {
-        releaseAt(release);
         return firstReason(release);
     }
 
@@ -311,7 +310,8 @@ public final class SpecBoard {
         return bestWithBounds(choice, 0, EMPTY, 0, 0, EMPTY, 0);
     }
 
-    public int bestValueByTrying(int release) throws IndexOutOfBoundsException, IllegalStateException {
+    public int bestValueByTrying(int release)
+            throws IndexOutOfBoundsException, IllegalStateException {
         if (releaseAt(release).shipped) {
             throw new IllegalStateException("the release was shipped");
         }
@@ -321,7 +321,8 @@ public final class SpecBoard {
 
     // ---- risks
 
-    public int addRisk(int chance, int harm) throws IllegalArgumentException, IllegalStateException {
+    public int addRisk(int chance, int harm)
+            throws IllegalArgumentException, IllegalStateException {
         if (!isWithin(chance, 0, MOST_CHANCE) || !isWithin(harm, 0, MOST_HARM)) {
             throw new IllegalArgumentException("a number is out of range");
         }
@@ -402,7 +403,8 @@ public final class SpecBoard {
         return Integer.bitCount(openOf(kind));
     }
 
-    public int openAt(char kind, int index) throws IllegalArgumentException, NoSuchElementException {
+    public int openAt(char kind, int index)
+            throws IllegalArgumentException, NoSuchElementException {
         if (!isKind(kind)) {
             throw new IllegalArgumentException("no such kind");
         }
@@ -718,7 +720,7 @@ public final class SpecBoard {
             Choice choice, int next, int set, int cost, int value, int needed, int best) {
         int there = set | choice.standing;
         int missing = needed & ~there;
-        if (next >= choice.count) {
+        if (!choice.hasPlace(next)) {
             return missing == EMPTY && value > best ? value : best;
         }
         if (value + choice.valueFrom[next] <= best || (missing & ~choice.bitsFrom[next]) != EMPTY) {
@@ -736,7 +738,7 @@ public final class SpecBoard {
     // It leaves out nothing before a set is whole, so that it can vouch for the search with bounds.
     private static int bestOfAll(
             Choice choice, int next, int set, int cost, int value, int needed, int excluded) {
-        if (next >= choice.count) {
+        if (!choice.hasPlace(next)) {
             int there = set | choice.standing;
             boolean fits = cost <= choice.room
                     && (needed & ~there) == EMPTY && (excluded & there) == EMPTY;
@@ -895,7 +897,8 @@ public final class SpecBoard {
         }
         for (int i = 0; i < wishes.size(); i++) {
             boolean needsItself = contains(wish.needs, i) && contains(withAllNeeds(i), number);
-            boolean isMutual = contains(wish.excludes, i) == contains(wishes.get(i).excludes, number);
+            boolean isExcludedBack = contains(wishes.get(i).excludes, number);
+            boolean isMutual = contains(wish.excludes, i) == isExcludedBack;
             if (needsItself || !isMutual) {
                 return false;
             }
@@ -1075,6 +1078,10 @@ public final class SpecBoard {
         int count = 0;
         int room = 0;
         int standing = EMPTY;
+
+        boolean hasPlace(int place) {
+            return place >= 0 && place < count && place < MOST_WISHES;
+        }
 
         void start(int newRoom, int newStanding) {
             count = 0;

@@ -8,6 +8,7 @@ final class ConsistencyTest {
         Check.yes("42: a new book", new SpecBoard().isConsistent());
         Check.yes("42: a book in use", inUse().isConsistent());
         Check.yes("42: a full book", full().isConsistent());
+        Check.yes("42: a book of the least numbers", least().isConsistent());
         damaged("wishes", 0, "name", "Capital");
         damaged("wishes", 0, "name", "b");
         damaged("wishes", 0, "name", "");
@@ -21,6 +22,7 @@ final class ConsistencyTest {
         damaged("wishes", 1, "state", 'p');
         damaged("wishes", 1, "state", 'a');
         damaged("wishes", 0, "release", 1);
+        damaged("wishes", 2, "release", 2);
         damaged("wishes", 2, "release", 6);
         damaged("wishes", 2, "release", -2);
         damaged("wishes", 0, "parent", 0);
@@ -29,7 +31,10 @@ final class ConsistencyTest {
         damaged("wishes", 3, "needs", 1);
         damaged("wishes", 3, "excludes", 1);
         damaged("wishes", 3, "excludes", 8);
+        damaged("wishes", 1, "excludes", 0);
+        damaged("wishes", 0, "needs", 9);
         damaged("tests", 0, "covers", 1 << 9);
+        damaged("tests", 1, "covers", 1 << 4);
         damaged("tests", 0, "covers", 1);
         damaged("releases", 0, "shipped", false);
         damaged("releases", 1, "shipped", true);
@@ -38,8 +43,14 @@ final class ConsistencyTest {
         damaged("releases", 1, "capacity", 0);
         damaged("risks", 0, "firstChance", 1001);
         damaged("risks", 0, "harm", -1);
-        damagedCount();
+        damagedCount(0, 1);
+        damagedCount(1, 2);
         damagedEffects();
+        tooMany("wishes");
+        tooMany("tests");
+        tooMany("releases");
+        tooMany("risks");
+        tooMany("baselines");
         Check.end();
     }
 
@@ -57,6 +68,7 @@ final class ConsistencyTest {
         book.accept(2);
         Books.ship(book, 1, 0);
         book.plan(2, 1);
+        book.addTest();
         book.refine(3, 2);
         book.need(0, 3);
         book.exclude(0, 1);
@@ -85,6 +97,19 @@ final class ConsistencyTest {
         return book;
     }
 
+    private static SpecBoard least() {
+        SpecBoard book = new SpecBoard();
+        Books.wish(book, "abcdefgh", 1, 0);
+        book.addRelease(1);
+        book.accept(0);
+        book.plan(0, 0);
+        book.addRisk(0, 0);
+        for (int i = 0; i < 6; i++) {
+            book.lower(0, 0, 1);
+        }
+        return book;
+    }
+
     private static void damaged(String list, int index, String field, Object value) throws Exception {
         SpecBoard book = inUse();
         Object part = listOf(book, list).get(index);
@@ -92,26 +117,33 @@ final class ConsistencyTest {
         Check.no("42: " + field + " " + index + " is " + value, book.isConsistent());
     }
 
-    private static void damagedCount() throws Exception {
+    private static void damagedCount(int wish, int count) throws Exception {
         SpecBoard book = inUse();
         Object release = listOf(book, "releases").get(0);
-        Array.setInt(fieldOf(release, "passedCounts").get(release), 1, 2);
-        Check.no("42: a passed count of 2", book.isConsistent());
+        Array.setInt(fieldOf(release, "passedCounts").get(release), wish, count);
+        Check.no("42: a passed count of " + count, book.isConsistent());
+    }
+
+    /** Puts the first of a full list in once more. */
+    private static void tooMany(String list) throws Exception {
+        SpecBoard book = full();
+        listOf(book, list).add(listOf(book, list).get(0));
+        Check.no("42: one more of " + list, book.isConsistent());
     }
 
     private static void damagedEffects() throws Exception {
         SpecBoard book = inUse();
         Object risk = listOf(book, "risks").get(0);
-        @SuppressWarnings("unchecked")
-        List<Object> effects = (List<Object>) fieldOf(risk, "effects").get(risk);
+        List<Object> effects = listOf(risk, "effects");
         for (int i = 0; i < 6; i++) {
             effects.add(effects.get(0));
         }
         Check.no("42: seven effects", book.isConsistent());
     }
 
-    private static List<?> listOf(SpecBoard book, String list) throws Exception {
-        return (List<?>) fieldOf(book, list).get(book);
+    @SuppressWarnings("unchecked")
+    private static List<Object> listOf(Object owner, String list) throws Exception {
+        return (List<Object>) fieldOf(owner, list).get(owner);
     }
 
     private static Field fieldOf(Object part, String name) throws Exception {

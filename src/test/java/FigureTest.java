@@ -110,6 +110,10 @@ final class FigureTest {
         book.result(0, 0, 'p');
         book.ship(0);
         Check.same("36: shipped", 3, book.openEnds('w'));
+        SpecBoard first = Books.withAccepted(2);
+        first.refine(1, 0);
+        Check.same("36: the first wish has a child", 1, first.openEnds('w'));
+        Check.same("37: the second has none", 1, first.openAt('w', 0));
     }
 
     private static void openTestsAndRisks() {

@@ -22,6 +22,7 @@ final class ReleaseTest {
         bestValue();
         bestValueWithNeeds();
         bestValueWithExclusions();
+        bestValueEachAlone();
         bestValueOfSixteen();
         noSuchRelease();
         Check.end();
@@ -175,9 +176,18 @@ final class ReleaseTest {
         Check.same("24: a clash", 'c', book.reasonAgainst(0));
         book.drop(2);
         Check.same("24: the clash is dropped", '-', book.reasonAgainst(0));
-        book.need(1, 3);
+        book.need(0, 3);
         book.drop(3);
         Check.same("24: a dropped need", 'd', book.reasonAgainst(0));
+        SpecBoard clash = Books.withAccepted(2);
+        clash.addRelease(9);
+        clash.addRelease(9);
+        Books.ship(clash, 1, 0);
+        clash.plan(0, 1);
+        Books.passedTest(clash, 0, 1);
+        Check.same("24: no clash", '-', clash.reasonAgainst(1));
+        clash.exclude(1, 0);
+        Check.same("24: a clash of the first wish", 'c', clash.reasonAgainst(1));
     }
 
     private static void reasonsInTheirOrder() {
@@ -303,6 +313,12 @@ final class ReleaseTest {
         best("a chain", 97, book, 0);
         book.drop(0);
         best("the end of the chain is dropped", 0, book, 0);
+        SpecBoard far = Books.withAccepted(4);
+        far.addRelease(9);
+        far.need(0, 2);
+        best("a need some places on", 4, far, 0);
+        far.need(3, 0);
+        best("and one some places back", 4, far, 0);
         SpecBoard planned = Books.withAccepted(3);
         planned.addRelease(9);
         planned.need(0, 1);
@@ -337,6 +353,20 @@ final class ReleaseTest {
         best("an exclusion among the excluded", 3, book, 1);
         book.need(3, 1);
         best("needs one that is excluded", 0, book, 1);
+    }
+
+    private static void bestValueEachAlone() {
+        SpecBoard book = Books.withAccepted(3);
+        book.addRelease(2);
+        Check.same("26: alone", 2, book.bestValue(0));
+        book.drop(0);
+        book.drop(1);
+        Check.same("27: after a change", 1, book.bestValueByTrying(0));
+        book.drop(2);
+        Check.same("26: after a change", 0, book.bestValue(0));
+        SpecBoard other = Books.withAccepted(3);
+        other.addRelease(2);
+        Check.same("27: alone", 2, other.bestValueByTrying(0));
     }
 
     private static void bestValueOfSixteen() {

@@ -231,6 +231,20 @@ final class WishTest {
         Check.no("10: the other way", book.exclude(1, 0));
         Check.yes("10: another pair", book.exclude(2, 0));
         Check.yes("10: the third pair", book.exclude(2, 1));
+        Check.no("10: the first pair still", book.exclude(0, 1));
+        Check.no("10: the second pair still", book.exclude(0, 2));
+        Check.no("10: the third pair, the other way", book.exclude(1, 2));
+        SpecBoard many = Books.withWishes(16);
+        for (int i = 0; i < 16; i++) {
+            for (int j = 0; j < i; j++) {
+                Check.yes("10: each pair", many.exclude(i, j));
+            }
+        }
+        for (int i = 0; i < 16; i++) {
+            for (int j = 0; j < i; j++) {
+                Check.no("10: each pair once", (i + j) % 2 == 0 ? many.exclude(i, j) : many.exclude(j, i));
+            }
+        }
         Check.fails("10: itself", ARGUMENT, () -> book.exclude(2, 2));
         Check.fails("10: no wish", NO_INDEX, () -> book.exclude(3, 0));
         Check.fails("10: no other", NO_INDEX, () -> book.exclude(0, 3));
