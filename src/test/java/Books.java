@@ -1,6 +1,100 @@
 /** Makes books that the tests of the project begin with. */
 final class Books {
+    /** The wishes of a busy book and of a full one, by their states. */
+    static final int NEW = 0;
+    static final int ACCEPTED = 1;
+    static final int PLANNED = 2;
+    static final int SHIPPED = 3;
+    static final int DROPPED = 4;
+
+    /** Their releases: one was shipped, one holds a planned wish, one has room for cost 2 alone. */
+    static final int GONE = 0;
+    static final int OPEN = 1;
+    static final int TIGHT = 2;
+
     private Books() {
+    }
+
+    /** A book with a wish in each state, links of all kinds, results, risks, baselines and a line. */
+    static SpecBoard busy() {
+        SpecBoard book = new SpecBoard();
+        wish(book, "new", 5, 10);
+        wish(book, "house", 20, 99);
+        wish(book, "door", 7, 30);
+        wish(book, "roof", 4, 0);
+        wish(book, "tower", 50, 50);
+        wish(book, "f", 3, 8);
+        book.makeBaseline();
+        book.accept(ACCEPTED);
+        book.accept(PLANNED);
+        book.accept(SHIPPED);
+        book.accept(5);
+        book.addRelease(10);
+        book.addRelease(30);
+        book.addRelease(2);
+        ship(book, SHIPPED, GONE);
+        book.plan(PLANNED, OPEN);
+        book.drop(DROPPED);
+        book.cover(book.addTest(), PLANNED);
+        book.result(1, OPEN, 'f');
+        book.addTest();
+        book.refine(PLANNED, ACCEPTED);
+        book.refine(DROPPED, ACCEPTED);
+        book.need(5, SHIPPED);
+        book.need(ACCEPTED, 5);
+        book.exclude(NEW, ACCEPTED);
+        book.addRisk(900, 5000);
+        book.lower(0, SHIPPED, 15);
+        book.raise(0, DROPPED, 300);
+        book.raise(0, ACCEPTED, 50);
+        book.addRisk(1, 9999);
+        book.makeBaseline();
+        book.writeWish(PLANNED);
+        return book;
+    }
+
+    /** The same, with two letters in the text buffer. */
+    static SpecBoard busyTyping() {
+        SpecBoard book = busy();
+        type(book, "do");
+        return book;
+    }
+
+    /** A busy book that has no room for any more of anything. */
+    static SpecBoard full() {
+        SpecBoard book = busy();
+        for (int i = 6; i < 15; i++) {
+            wish(book, "" + (char) ('g' + i), i, i);
+        }
+        wish(book, "abcdefgh", 50, 99);
+        for (int i = 3; i < 16; i++) {
+            book.addTest();
+        }
+        for (int i = 3; i < 6; i++) {
+            book.addRelease(500);
+        }
+        for (int i = 2; i < 8; i++) {
+            book.addRisk(100 * i, 1000 * i);
+        }
+        for (int i = 0; i < 8; i++) {
+            for (int j = i == 0 ? 3 : 0; j < 6; j += 2) {
+                book.lower(i, SHIPPED, 10 + i);
+            }
+            for (int j = i == 0 ? 4 : 1; j < 6; j += 2) {
+                book.raise(i, j, 20 + i);
+            }
+        }
+        for (int i = 2; i < 5; i++) {
+            book.makeBaseline();
+        }
+        return book;
+    }
+
+    /** The same, with as many letters in the text buffer as it takes. */
+    static SpecBoard fullTyping() {
+        SpecBoard book = full();
+        type(book, "abcdefgh");
+        return book;
     }
 
     static void type(SpecBoard book, String text) {
