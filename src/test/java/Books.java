@@ -68,7 +68,7 @@ final class Books {
         }
         wish(book, "abcdefgh", 50, 99);
         for (int i = 3; i < 16; i++) {
-            book.addTest();
+            book.cover(book.addTest(), i);
         }
         for (int i = 3; i < 6; i++) {
             book.addRelease(500);

@@ -22,7 +22,7 @@ final class ConsistencyTest {
         damaged("wishes", 1, "state", 'p');
         damaged("wishes", 1, "state", 'a');
         damaged("wishes", 0, "release", 1);
-        damaged("wishes", 2, "release", 2);
+        damaged("wishes", 2, "release", 3);
         damaged("wishes", 2, "release", 6);
         damaged("wishes", 2, "release", -2);
         damaged("wishes", 0, "parent", 0);
@@ -34,6 +34,7 @@ final class ConsistencyTest {
         damaged("wishes", 1, "excludes", 0);
         damaged("wishes", 0, "needs", 9);
         damaged("tests", 0, "covers", 1 << 9);
+        damaged("tests", 0, "covers", 1 << 9 | 1 << 1);
         damaged("tests", 1, "covers", 1 << 4);
         damaged("tests", 0, "covers", 1);
         damaged("releases", 0, "shipped", false);
@@ -41,9 +42,12 @@ final class ConsistencyTest {
         damaged("releases", 1, "capacity", 501);
         damaged("releases", 1, "capacity", 1);
         damaged("releases", 1, "capacity", 0);
+        damaged("releases", 2, "capacity", 0);
         damaged("risks", 0, "firstChance", 1001);
+        damaged("risks", 0, "firstChance", -1);
         damaged("risks", 0, "harm", -1);
         damagedCount(0, 1);
+        damagedCount(0, -1);
         damagedCount(1, 2);
         damagedEffects();
         tooMany("wishes");
@@ -54,13 +58,14 @@ final class ConsistencyTest {
         Check.end();
     }
 
-    /** Wish 0 is accepted, 1 is shipped with 0, 2 is planned for 1, 3 is new. */
+    /** Wish 0 is accepted, 1 is shipped with 0, 2 is planned for 1, 3 is new; release 2 is empty. */
     private static SpecBoard inUse() {
         SpecBoard book = new SpecBoard();
         Books.wish(book, "a", 2, 1);
         Books.wish(book, "b", 2, 1);
         Books.wish(book, "c", 2, 1);
         Books.wish(book, "d", 2, 1);
+        book.addRelease(9);
         book.addRelease(9);
         book.addRelease(9);
         book.accept(0);

@@ -38,7 +38,12 @@ enum Probe {
     BASELINES {
         @Override
         void ask(SpecBoard book, Answers answers) {
+            differences(book, answers);
             answers.ask("makeBaseline", book::makeBaseline);
+            differences(book, answers);
+        }
+
+        private void differences(SpecBoard book, Answers answers) {
             for (int i = 0; i <= 5; i++) {
                 for (int j = 0; j <= i; j++) {
                     int one = i;
