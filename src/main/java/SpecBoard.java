@@ -199,7 +199,7 @@ public final class SpecBoard {
             throws IndexOutOfBoundsException, IllegalArgumentException, IllegalStateException {
         Test judged = testAt(test);
         Release tested = releaseAt(release);
-        if (result != PASSED && result != FAILED && result != NO_RESULT) {
+        if (!isResult(result)) {
             throw new IllegalArgumentException("no such result");
         }
         if (tested.shipped) {
@@ -613,6 +613,10 @@ public final class SpecBoard {
 
     // ---- coverage
 
+    private static boolean isResult(char result) {
+        return result == PASSED || result == FAILED || result == NO_RESULT;
+    }
+
     private int coveredByCounts(Release release) {
         int set = EMPTY;
         for (int i = 0; i < wishes.size(); i++) {
@@ -903,12 +907,28 @@ public final class SpecBoard {
                 return false;
             }
         }
-        return !contains(wish.excludes, number);
+        return areWishes(wish.needs) && areWishes(wish.excludes)
+                && !contains(wish.excludes, number);
+    }
+
+    private boolean areWishes(int set) {
+        return (set >> wishes.size()) == EMPTY;
     }
 
     private boolean testsHold() {
         for (int i = 0; i < tests.size(); i++) {
-            if ((tests.get(i).covers >> wishes.size()) != EMPTY) {
+            if (!areWishes(tests.get(i).covers) || !resultsHold(tests.get(i))) {
+                return false;
+            }
+        }
+        return true;
+    }
+
+    private boolean resultsHold(Test test) {
+        for (int i = 0; i < MOST_RELEASES; i++) {
+            char result = test.resultFor(i);
+            boolean holds = i < releases.size() ? isResult(result) : result == NO_RESULT;
+            if (!holds) {
                 return false;
             }
         }
@@ -919,6 +939,7 @@ public final class SpecBoard {
         for (int i = 0; i < releases.size(); i++) {
             Release release = releases.get(i);
             boolean holds = isWithin(release.capacity, 1, MOST_CAPACITY) && roomIn(i) >= 0
+                    && (!release.shipped || wishesOf(i) != EMPTY)
                     && passedCountsHold(i) && coveredByCounts(release) == coveredByLinks(i);
             if (!holds) {
                 return false;
@@ -947,14 +968,23 @@ public final class SpecBoard {
         for (int i = 0; i < risks.size(); i++) {
             Risk risk = risks.get(i);
             boolean holds = isWithin(risk.firstChance, 0, MOST_CHANCE)
-                    && isWithin(risk.harm, 0, MOST_HARM)
-                    && risk.effects.size() <= MOST_EFFECTS
-                    && isWithin(chanceOf(risk, wishesIn(DROPPED)), 0, MOST_CHANCE);
+                    && isWithin(risk.harm, 0, MOST_HARM) && effectsHold(risk);
             if (!holds) {
                 return false;
             }
         }
         return true;
+    }
+
+    private boolean effectsHold(Risk risk) {
+        for (int i = 0; i < risk.effects.size(); i++) {
+            Effect effect = risk.effects.get(i);
+            int most = effect.lowers ? MOST_PERCENTAGE : MOST_CHANCE;
+            if (!hasWish(effect.wish) || !isWithin(effect.amount, 1, most)) {
+                return false;
+            }
+        }
+        return risk.effects.size() <= MOST_EFFECTS;
     }
 
     // ---- what the book holds

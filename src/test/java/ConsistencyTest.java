@@ -33,12 +33,17 @@ final class ConsistencyTest {
         damaged("wishes", 3, "excludes", 8);
         damaged("wishes", 1, "excludes", 0);
         damaged("wishes", 0, "needs", 9);
+        damaged("wishes", 0, "needs", 1 << 4);
+        damaged("wishes", 0, "needs", Integer.MIN_VALUE);
+        damaged("wishes", 0, "excludes", 1 << 1 | 1 << 4);
+        damaged("wishes", 0, "excludes", 1 << 1 | Integer.MIN_VALUE);
         damaged("tests", 0, "covers", 1 << 9);
         damaged("tests", 0, "covers", 1 << 9 | 1 << 1);
         damaged("tests", 1, "covers", 1 << 4);
         damaged("tests", 0, "covers", 1);
         damaged("releases", 0, "shipped", false);
         damaged("releases", 1, "shipped", true);
+        damaged("releases", 2, "shipped", true);
         damaged("releases", 1, "capacity", 501);
         damaged("releases", 1, "capacity", 1);
         damaged("releases", 1, "capacity", 0);
@@ -49,7 +54,19 @@ final class ConsistencyTest {
         damagedCount(0, 1);
         damagedCount(0, -1);
         damagedCount(1, 2);
-        damagedEffects();
+        damagedResult(2, 'x');
+        damagedResult(2, (char) 0);
+        damagedResult(3, 'p');
+        damagedResult(3, 'f');
+        damagedResult(5, 'x');
+        damagedEffect(0, "wish", -1);
+        damagedEffect(0, "wish", 4);
+        damagedEffect(0, "amount", 0);
+        damagedEffect(0, "amount", 101);
+        damagedEffect(1, "wish", 4);
+        damagedEffect(1, "amount", 0);
+        damagedEffect(1, "amount", 1001);
+        sevenEffects();
         tooMany("wishes");
         tooMany("tests");
         tooMany("releases");
@@ -78,7 +95,8 @@ final class ConsistencyTest {
         book.need(0, 3);
         book.exclude(0, 1);
         book.addRisk(500, 10);
-        book.lower(0, 1, 10);
+        book.lower(0, 1, 100);
+        book.raise(0, 3, 1000);
         return book;
     }
 
@@ -109,8 +127,9 @@ final class ConsistencyTest {
         book.accept(0);
         book.plan(0, 0);
         book.addRisk(0, 0);
-        for (int i = 0; i < 6; i++) {
+        for (int i = 0; i < 3; i++) {
             book.lower(0, 0, 1);
+            book.raise(0, 0, 1);
         }
         return book;
     }
@@ -136,11 +155,25 @@ final class ConsistencyTest {
         Check.no("42: one more of " + list, book.isConsistent());
     }
 
-    private static void damagedEffects() throws Exception {
+    private static void damagedResult(int release, char result) throws Exception {
         SpecBoard book = inUse();
-        Object risk = listOf(book, "risks").get(0);
-        List<Object> effects = listOf(risk, "effects");
-        for (int i = 0; i < 6; i++) {
+        Object test = listOf(book, "tests").get(1);
+        Array.setChar(fieldOf(test, "results").get(test), release, result);
+        Check.no("42: the result " + (int) result + " for release " + release, book.isConsistent());
+    }
+
+    /** Effect 0 lowers, effect 1 raises. */
+    private static void damagedEffect(int index, String field, Object value) throws Exception {
+        SpecBoard book = inUse();
+        Object effect = listOf(listOf(book, "risks").get(0), "effects").get(index);
+        fieldOf(effect, field).set(effect, value);
+        Check.no("42: " + field + " of effect " + index + " is " + value, book.isConsistent());
+    }
+
+    private static void sevenEffects() throws Exception {
+        SpecBoard book = inUse();
+        List<Object> effects = listOf(listOf(book, "risks").get(0), "effects");
+        while (effects.size() < 7) {
             effects.add(effects.get(0));
         }
         Check.no("42: seven effects", book.isConsistent());
