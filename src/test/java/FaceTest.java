@@ -83,7 +83,8 @@ final class FaceTest {
         Check.same("the public methods", due, got);
     }
 
-    private static String textOf(Method method) {
+    /** A method as "int type(char) throws [A, B]", the exceptions in the order of its declaration. */
+    static String textOf(Method method) {
         return method.getReturnType().getSimpleName() + " " + method.getName()
             + namesOf(method.getParameterTypes()).toString()
                 .replace('[', '(').replace(']', ')').replace(" ", "")
